@@ -189,7 +189,7 @@ public final class Forwardroll {
     public long balance(int customer, int what) throws IndexOutOfBoundsException, IllegalArgumentException {
         Customer client = customerNumbered(customer);
         requireRange(what, 0, HOME);
-        return client.settledAmount(what);
+        return client.balances.amountOf(what);
     }
 
     public int pass(int days) throws IllegalArgumentException, IllegalStateException {
@@ -360,31 +360,58 @@ public final class Forwardroll {
     /** A customer with a limit, the net amounts of each settlement day, and the balances. */
     private static final class Customer {
         private int limit = START_LIMIT;
-        /** One row of all kinds of money for each day. */
-        private final long[] netAmounts = new long[(LAST_SETTLEMENT_DAY + 1) * MONEYS];
-        private final long[] balances = new long[MONEYS];
+        /** By day; made only when something is first due or owed then, as most days have nothing. */
+        private final Amounts[] netAmounts = new Amounts[LAST_SETTLEMENT_DAY + 1];
+        private final Amounts balances = new Amounts();
 
         void book(int money, int day, long amount) {
-            int slot = day * MONEYS + money;
-            if (isIndex(slot, netAmounts.length)) {
-                netAmounts[slot] += amount;
+            if (!isIndex(day, netAmounts.length)) {
+                return;
             }
+            Amounts booked = netAmounts[day];
+            if (booked == null) {
+                booked = new Amounts();
+                netAmounts[day] = booked;
+            }
+            booked.add(money, amount);
         }
 
-        /** Nothing can be due later than the last settlement day, so 0 is due there. */
+        /** The net amounts of a day, or null if nothing has been due or owed then. */
+        Amounts netAmountsOf(int day) {
+            return isIndex(day, netAmounts.length) ? netAmounts[day] : null;
+        }
+
         long netAmount(int money, int day) {
-            int slot = day * MONEYS + money;
-            return isIndex(slot, netAmounts.length) ? netAmounts[slot] : 0L;
+            Amounts booked = netAmountsOf(day);
+            return booked == null ? 0L : booked.amountOf(money);
         }
 
         void settle(int day) {
-            for (int money = 0; money < balances.length; money++) {
-                balances[money] += netAmount(money, day);
+            Amounts booked = netAmountsOf(day);
+            if (booked != null) {
+                balances.addAll(booked);
+            }
+        }
+    }
+
+    /** An amount of each kind of money. */
+    private static final class Amounts {
+        private final long[] byMoney = new long[MONEYS];
+
+        void add(int money, long amount) {
+            if (isIndex(money, byMoney.length)) {
+                byMoney[money] += amount;
             }
         }
 
-        long settledAmount(int money) {
-            return isIndex(money, balances.length) ? balances[money] : 0L;
+        void addAll(Amounts added) {
+            for (int money = 0; money < MONEYS; money++) {
+                add(money, added.amountOf(money));
+            }
+        }
+
+        long amountOf(int money) {
+            return isIndex(money, byMoney.length) ? byMoney[money] : 0L;
         }
     }
 
