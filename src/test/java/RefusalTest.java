@@ -54,7 +54,7 @@ public final class RefusalTest {
         Check.holds(what + " changes nothing", stateOf(desk).equals(before));
     }
 
-    /** All that a desk answers without being changed; about 150 calls. */
+    /** All that a desk answers without being changed; some 90 calls, and five more for each deal. */
     private static String stateOf(Forwardroll desk) {
         StringBuilder state = new StringBuilder();
         state.append(desk.today()).append(' ').append(desk.settlementDay());
