@@ -148,7 +148,9 @@ public final class Forwardroll {
     public long closeOut(int deal) throws IndexOutOfBoundsException, IllegalStateException {
         Deal closed = dealNumbered(deal);
         requireLeft(closed);
-        return endDeal(closed);
+        long booked = bookGain(closed);
+        closed.amountLeft = 0;
+        return booked;
     }
 
     public int left(int deal) throws IndexOutOfBoundsException {
@@ -258,17 +260,12 @@ public final class Forwardroll {
         int ended = 0;
         for (Deal deal : deals) {
             if (deal != null && deal.amountLeft > 0 && deal.lastDay == calendar.today) {
-                endDeal(deal);
+                bookGain(deal);
+                deal.amountLeft = 0;
                 ended++;
             }
         }
         return ended;
-    }
-
-    private long endDeal(Deal deal) {
-        long booked = bookGain(deal);
-        deal.amountLeft = 0;
-        return booked;
     }
 
     private long bookGain(Deal deal) {

@@ -1,3 +1,5 @@
+import java.util.function.LongSupplier;
+
 /** Counts and prints the answers that are not as due; a test ends with exit code 1 if there was one. */
 final class Check {
     private static int asked = 0;
@@ -15,6 +17,16 @@ final class Check {
 
     static void holds(String what, boolean got) {
         equal(what, got ? 1 : 0, 1);
+    }
+
+    /** Reports what is thrown instead of an answer, and goes on. */
+    static void answers(String what, LongSupplier call, long due) {
+        try {
+            equal(what, call.getAsLong(), due);
+        } catch (RuntimeException thrown) {
+            asked++;
+            report(what + " threw " + thrown.getClass().getName() + ", due is " + due);
+        }
     }
 
     /** Asks for the very class, so that the machine's own ArrayIndexOutOfBoundsException is wrong, too. */

@@ -6,25 +6,16 @@ public final class DealTest {
 
     public static void main(String[] args) {
         dealNumbersRatesAndWindows();
-        dealEdges();
-        twentyDeals();
-        limitBoundsABuyer();
-        limitBoundsASeller();
         limitLooksAtAllDealsOfTheCustomer();
         drawWithinTheWindow();
         drawEarly();
-        drawEarlyIsOneAtLeast();
-        drawOnTheLastDay();
         rollCarried();
         rollSettled();
         rollLoss();
-        rollEdges();
         closeOut();
         leftRateAndWindowOfADeal();
         gain();
-        gainRoundsEachHomeAmount();
         exposureIsTheWorse();
-        exposureRoundsTheRateDown();
         exposureAddsTheDealsOfACustomer();
         Check.end("DealTest");
     }
@@ -50,52 +41,6 @@ public final class DealTest {
         desk.setRate(1, 9000);
         desk.setPoints(1, 0);
         Check.equal("7: the rate stays", desk.rate(0), 12300);
-    }
-
-    private static void dealEdges() {
-        Forwardroll desk = new Forwardroll();
-        Check.equal("7: least", desk.deal(0, 0, true, 1, 0, 0), 0);
-        Check.equal("7: most", desk.deal(4, 3, false, 1000000, 400, 400), 1);
-        Check.equal("7: most left", desk.left(1), 1000000);
-        Check.equal("7: farthest window", desk.window(1), 4000400);
-        Check.refused("7: last before first", ARGUMENT, () -> desk.deal(0, 0, true, 1, 6, 5));
-        Check.equal("7: last on first", desk.deal(0, 0, true, 1, 5, 5), 2);
-    }
-
-    private static void twentyDeals() {
-        Forwardroll desk = new Forwardroll();
-        for (int i = 0; i < 20; i++) {
-            Check.equal("7: number", desk.deal(i % 5, i % 4, i % 2 == 0, 1 + i, 0, 1), i);
-        }
-        Check.refused("7: deal 21", STATE, () -> desk.deal(0, 0, true, 1, 0, 0));
-        desk.draw(0, 1);
-        desk.closeOut(1);
-        Check.refused("7: deals that are over count, too", STATE, () -> desk.deal(0, 0, true, 1, 0, 0));
-        Check.equal("7: the last deal", desk.left(19), 20);
-        Check.refused("7: a deal behind the last", IndexOutOfBoundsException.class, () -> desk.left(20));
-    }
-
-    private static void limitBoundsABuyer() {
-        Forwardroll desk = new Forwardroll();
-        desk.setLimit(1, 999);
-        Check.refused("7: above the limit", STATE, () -> desk.deal(1, 1, true, 10000, 0, 5));
-        Check.equal("7: no exposure by that", desk.exposure(1), 0);
-        desk.setLimit(1, 1000);
-        Check.equal("7: at the limit", desk.deal(1, 1, true, 10000, 0, 5), 0);
-        Check.refused("7: one unit more", STATE, () -> desk.deal(1, 1, true, 1, 0, 5));
-        Check.equal("7: another customer's limit", desk.deal(2, 1, true, 10000, 0, 5), 1);
-    }
-
-    private static void limitBoundsASeller() {
-        Forwardroll desk = deskWithPoints(10000, 50);
-        desk.setLimit(0, 1020);
-        Check.refused("7: above the limit at the rate of the last day", STATE, () -> desk.deal(0, 1, false, 10000, 0, 5));
-        desk.setLimit(0, 1025);
-        Check.equal("7: at the limit", desk.deal(0, 1, false, 10000, 0, 5), 0);
-        Forwardroll strict = new Forwardroll();
-        strict.setLimit(0, 0);
-        Check.equal("7: a limit of 0, no exposure", strict.deal(0, 1, false, 5, 0, 0), 0);
-        Check.refused("7: a limit of 0, some exposure", STATE, () -> strict.deal(0, 1, false, 10, 0, 0));
     }
 
     private static void limitLooksAtAllDealsOfTheCustomer() {
@@ -151,27 +96,6 @@ public final class DealTest {
         Check.equal("8: no more early", desk.draw(1, 1000), 12200);
     }
 
-    private static void drawEarlyIsOneAtLeast() {
-        Forwardroll desk = deskWithPoints(30, 0);
-        desk.deal(0, 1, true, 20000, 3, 3);
-        desk.setPoints(1, 10);
-        Check.equal("8: not 0", desk.draw(0, 10000), 1);
-        Check.equal("8: owed at 1", desk.due(0, HOME, 1), -1);
-        desk.setPoints(1, 50);
-        Check.equal("8: not below 1", desk.draw(0, 10000), 1);
-    }
-
-    private static void drawOnTheLastDay() {
-        Forwardroll desk = new Forwardroll();
-        desk.deal(0, 1, true, 100, 0, 4);
-        desk.pass(4);
-        Check.equal("8: on the last day", desk.draw(0, 30), 10000);
-        Check.equal("8: due on the settlement day", desk.due(0, 1, 3), 30);
-        desk.pass(1);
-        Check.refused("8: the last day is over", ARGUMENT, () -> desk.draw(0, 1));
-        Check.equal("8: still due", desk.due(0, 1, 2), 30);
-    }
-
     private static void rollCarried() {
         Forwardroll desk = deskWithPoints(10000, 20);
         desk.deal(0, 1, true, 1000, 2, 10);
@@ -215,27 +139,6 @@ public final class DealTest {
         desk.setRate(1, 8000);
         Check.equal("9: lower rate", desk.roll(0, 1, true), 8000);
         Check.equal("9: a loss of what is left, on the settlement day", desk.due(0, HOME, 3), -100);
-    }
-
-    private static void rollEdges() {
-        Forwardroll desk = new Forwardroll();
-        desk.setLimit(0, 100);
-        desk.deal(0, 1, true, 1000, 0, 300);
-        desk.setRate(1, 20000);
-        desk.setLimit(0, 0);
-        Check.equal("9: up to 400 days, whatever the limit is", desk.roll(0, 100, true), 20000);
-        Check.refused("9: 401 days", STATE, () -> desk.roll(0, 1, false));
-        desk.pass(2);
-        Check.refused("9: 401 days on day 2", STATE, () -> desk.roll(0, 3, true));
-        Check.equal("9: 400 days on day 2", desk.roll(0, 2, false), 20000);
-        desk.closeOut(0);
-        Check.refused("9: nothing left", STATE, () -> desk.roll(0, 1, true));
-        Forwardroll ending = new Forwardroll();
-        ending.deal(0, 0, true, 10, 0, 0);
-        Check.equal("9: on the last day", ending.roll(0, 1, false), 10000);
-        Check.equal("9: not closed out on the old last day", ending.pass(1), 0);
-        Check.equal("9: closed out on the new one", ending.pass(1), 1);
-        Check.refused("9: closed out", STATE, () -> ending.roll(0, 1, false));
     }
 
     private static void closeOut() {
@@ -297,18 +200,6 @@ public final class DealTest {
         Check.equal("14: over", desk.gain(1), 0);
     }
 
-    private static void gainRoundsEachHomeAmount() {
-        Forwardroll desk = deskWithPoints(10001, 0);
-        desk.deal(0, 1, true, 3, 0, 10);
-        desk.deal(0, 1, false, 3, 0, 10);
-        desk.setRate(1, 9999);
-        Check.equal("14: 2 less 3", desk.gain(0), -1);
-        Check.equal("14: 3 less 2", desk.gain(1), 1);
-        desk.setRate(1, 13000);
-        Check.equal("14: 3 less 3", desk.gain(0), 0);
-        Check.equal("14: 3 less 3, sold", desk.gain(1), 0);
-    }
-
     private static void exposureIsTheWorse() {
         Forwardroll desk = new Forwardroll();
         desk.deal(0, 1, true, 10000, 0, 5);
@@ -325,21 +216,6 @@ public final class DealTest {
         Check.equal("15: of what is left", desk.exposure(1), 6000);
         desk.closeOut(1);
         Check.equal("15: nothing left", desk.exposure(1), 0);
-    }
-
-    private static void exposureRoundsTheRateDown() {
-        Forwardroll desk = deskWithPoints(15, 0);
-        desk.deal(0, 1, true, 10000, 0, 5);
-        desk.deal(1, 1, false, 10000, 0, 5);
-        Check.equal("15: 13, not 14", desk.exposure(0), 2);
-        Check.equal("15: 16, not 17", desk.exposure(1), 1);
-        desk.setRate(1, 1);
-        Check.equal("15: a rate of 1 at least", desk.exposure(0), 14);
-        desk.setRate(1, 15);
-        desk.setPoints(1, 1);
-        Check.equal("15: the forward rate for the last day", desk.exposure(1), 7);
-        desk.pass(3);
-        Check.equal("15: two days before the last", desk.exposure(1), 3);
     }
 
     private static void exposureAddsTheDealsOfACustomer() {
